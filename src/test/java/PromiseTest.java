@@ -404,17 +404,22 @@ public final class PromiseTest {
     private static void noPairs() {
         ContestRows x = contest(2, 10, 20);
         x.submit(0, 0, 100, 7, false);
-        x.submit(1, 0, 161, 7, false);
-        x.submit(1, 1, 100, 7, false);
-        x.submit(1, 0, 100, 8, false);
-        x.submit(1, 0, 100, 7, true);
         x.submit(0, 0, 100, 7, false);
+        noPair(x, 0);
+        x.submit(1, 1, 100, 7, false);
+        noPair(x, 0);
+        x.submit(1, 0, 100, 8, false);
+        noPair(x, 0);
+        x.submit(1, 0, 100, 7, true);
+        noPair(x, 0);
+        // Submission 5 is B's first alike one from here on, and 61 seconds apart.
+        x.submit(1, 0, 161, 7, false);
         noPair(x, 0);
         x.submit(1, 0, 100, 7, false);
         noPair(x, 0);
         x.start(1, 50);
         noPair(x, 0);
-        x.correct(1, true);
+        x.correct(5, true);
         pair(x, 0, 0, 1, 0, 0);
         pair(x, 1, 0, 1, 0, 0);
         noPair(x, 2);
